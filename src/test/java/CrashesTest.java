@@ -1,10 +1,10 @@
 /** A crash in place of every write of a run of appends and publishings, and of the recovery behind it. */
 final class CrashesTest {
     public static void main(String[] args) {
-        for (int before = 0; before <= 64; before += 4) {
-            for (int behind = 1; before + behind <= 64; behind += 3) {
-                for (int n = 0; n <= 11; n++) {
-                    crashInPublish(before, behind, n);
+        for (int before : new int[] {0, 1, 7, 8, 9, 30, 56, 63}) {
+            for (int behind : new int[] {1, 7, 8, 17, 34, 64}) {
+                if (before + behind <= 64) {
+                    crashInEveryWrite(before, behind);
                 }
             }
         }
@@ -14,7 +14,6 @@ final class CrashesTest {
         Check.end();
     }
 
-    /** Both heads and their logs are there, and the tiles are right for the latest one. */
     private static void compareDisks(String when, TileLog log, Reference model) {
         for (int t = 0; t < 8; t++) {
             for (int i = 0; i < 8; i++) {
@@ -40,7 +39,17 @@ final class CrashesTest {
         }
     }
 
-    private static void crashInPublish(int before, int behind, int n) {
+    /** At most ten writes publish, and nine recover. */
+    private static void crashInEveryWrite(int before, int behind) {
+        for (int n = 0; n <= 10; n++) {
+            for (int again = 0; again <= n && again <= 9; again++) {
+                crashInPublish(before, behind, n, again);
+            }
+        }
+    }
+
+    /** A crash behind n writes of publishing, and one behind some writes of the recovery from it. */
+    private static void crashInPublish(int before, int behind, int n, int again) {
         TileLog log = new TileLog();
         Reference model = new Reference();
         appendAll(log, model, before);
@@ -51,8 +60,8 @@ final class CrashesTest {
         Check.due("publish with a crash", log.publish(), model.publish());
         compareDisks("after the crash", log, model);
         boolean down = model.down;
-        log.order(n / 2);
-        model.order(n / 2);
+        log.order(again);
+        model.order(again);
         Check.due("recover with a crash", log.recover(), model.recover());
         compareDisks("after recovery", log, model);
         Check.due("recover again", log.recover(), model.recover());
