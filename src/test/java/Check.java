@@ -2,14 +2,22 @@
 final class Check {
     private static int wrong = 0;
     private static int asked = 0;
+    private static int sentences = 0;
+    private static String sentence = "";
 
     private Check() { }
+
+    /** What is asked from here on stands for these words of the document. */
+    static void sentence(String where, String words) {
+        sentences++;
+        sentence = where + ", \"" + words + "\": ";
+    }
 
     static void due(String call, long got, long want) {
         asked++;
         if (got != want) {
             wrong++;
-            System.out.println(call + " answered " + got + ", due is " + want);
+            System.out.println(sentence + call + " answered " + got + ", due is " + want);
         }
     }
 
@@ -23,7 +31,8 @@ final class Check {
 
     /** The last line of every test's main method. */
     static void end() {
-        System.out.println(asked + " answers, " + wrong + " of them not as due");
+        String told = sentences == 0 ? "" : sentences + " sentences, ";
+        System.out.println(told + asked + " answers, " + wrong + " of them not as due");
         if (wrong != 0) {
             System.exit(1);
         }

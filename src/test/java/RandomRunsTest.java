@@ -5,6 +5,7 @@ import java.util.Random;
 final class RandomRunsTest {
     private static final int RUNS = 1500;
     private static final int CALLS = 512;
+    private static final long HASHED_TO_ZERO = Unhash.entryOf(0);
 
     private final Random random;
     private final TileLog log = new TileLog();
@@ -44,6 +45,9 @@ final class RandomRunsTest {
                 due("order", log.order(n = random.nextInt(6)), model.order(n), n);
             }
         }
+        while (calls < CALLS && Check.wrongSoFar() == wrongBefore) {
+            anyCall(random.nextInt(9));
+        }
     }
 
     /** The greatest place or size to try for a size that may itself be wrong. */
@@ -77,7 +81,11 @@ final class RandomRunsTest {
     }
 
     private long anyEntry() {
-        return random.nextInt(10) == 0 ? random.nextLong() : random.nextInt(40) - 20;
+        int choice = random.nextInt(20);
+        if (choice == 0) {
+            return HASHED_TO_ZERO;
+        }
+        return choice < 3 ? random.nextLong() : random.nextInt(40) - 20;
     }
 
     private void anyCall(int choice) {
