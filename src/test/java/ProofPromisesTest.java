@@ -19,6 +19,7 @@ final class ProofPromisesTest {
         proofWhenThereIsNone();
         proofStays();
         offerBecomes();
+        offerStays();
         offerRefused();
         offersBecomes();
         offersKeepsHashes();
@@ -254,10 +255,33 @@ final class ProofPromisesTest {
             log.offer(i, OFFERED[i]);
             Check.due("and back", offers(log, 8, OFFERED), true);
         }
-        TileLog behind = offering(0);
-        Check.due("the length stays", offers(behind, 0), true);
-        behind.offers(8);
-        Check.due("behind the length too", offers(behind, 8, OFFERED), true);
+        TileLog behind = offering(3);
+        behind.offer(3, 99);
+        behind.offer(7, 99);
+        Check.due("the length stays", offers(behind, 3, OFFERED), true);
+        behind.offers(4);
+        Check.due("behind the length too", offers(behind, 4, OFFERED[0], OFFERED[1], OFFERED[2], 99), true);
+    }
+
+    /** Nothing but offer and offers changes the offer. */
+    private static void offerStays() {
+        TileLog log = offering(5);
+        Logs.fill(log, 9);
+        Check.due("behind append", offers(log, 5, OFFERED), true);
+        log.publish();
+        Check.due("behind publish", offers(log, 5, OFFERED), true);
+        log.extend(7, 9);
+        Check.due("behind extend", offers(log, 5, OFFERED), true);
+        log.include(7, 9);
+        Check.due("behind include", offers(log, 5, OFFERED), true);
+        log.order(0);
+        log.append(1);
+        Check.due("while down", offers(log, 5, OFFERED), true);
+        log.recover();
+        Check.due("behind recovery", offers(log, 5, OFFERED), true);
+        Check.due("and asked again", offers(log, 5, OFFERED), true);
+        log.offers(8);
+        Check.due("its hashes behind that", offers(log, 8, OFFERED), true);
     }
 
     private static void offerRefused() {
